@@ -30,6 +30,9 @@ final class RunsTest {
     private void run() {
         tell(goodText());
         for (int i = 0; i < CALLS; i++) {
+            if (random.nextInt(100) == 0) {
+                tell(anotherText());
+            }
             String before = Check.seen(court);
             int answer = call();
             if (answer <= Check.UNKNOWN) {
@@ -40,8 +43,12 @@ final class RunsTest {
 
     private void texts() {
         for (int i = 0; i < TEXTS; i++) {
-            tell(random.nextInt(4) == 0 ? anyText() : spoilt(goodText()));
+            tell(anotherText());
         }
+    }
+
+    private String anotherText() {
+        return random.nextInt(4) == 0 ? anyText() : spoilt(goodText());
     }
 
     private void tell(String text) {

@@ -151,6 +151,9 @@ final class TextTest {
         x.keep(0);
         x.keep(1);
         x.hour(1);
+        x.drawTo(0, 6);
+        x.bring(2, 1);
+        x.drawTo(1, 9);
         Check.feed(x, GOOD);
         Check.due("beach() anew", x.beach(), 4);
         Check.due("goBack(0) behind beach()", x.goBack(0), Check.NOT);
