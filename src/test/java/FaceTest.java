@@ -1,4 +1,5 @@
 import java.io.IOException;
+import java.lang.reflect.Field;
 import java.lang.reflect.Member;
 import java.lang.reflect.Method;
 import java.lang.reflect.Modifier;
@@ -27,7 +28,12 @@ final class FaceTest {
         members(BathingCourt.class.getDeclaredFields());
         members(BathingCourt.class.getDeclaredMethods());
         namesInside();
+        shapes(BathingCourt.class);
+        for (Class<?> inside : BathingCourt.class.getDeclaredClasses()) {
+            shapes(inside);
+        }
         words();
+        lengths();
         Check.finish();
     }
 
@@ -76,6 +82,44 @@ final class FaceTest {
                 Check.due("a name of the face: " + m, face.contains(m.getName()) ? 1 : 0, 0);
             }
         }
+    }
+
+    /** Rules 3, 5 and 11: static fields are constants, arrays have one dimension, what is counted stays small. */
+    private static void shapes(Class<?> type) {
+        int fields = 0;
+        for (Field field : type.getDeclaredFields()) {
+            boolean isStatic = Modifier.isStatic(field.getModifiers());
+            fields += isStatic ? 0 : 1;
+            if (isStatic) {
+                Check.due("final: " + field, Modifier.isFinal(field.getModifiers()) ? 1 : 0, 1);
+                Check.due("int or long: " + field, Set.of(int.class, long.class).contains(field.getType()) ? 1 : 0, 1);
+            }
+            Class<?> element = field.getType().getComponentType();
+            Check.due("one dimension: " + field, element == null || element.isPrimitive() ? 1 : 0, 1);
+        }
+        Check.due("some twenty fields at most: " + type, fields <= 20 ? 1 : 0, 1);
+        for (Method m : type.getDeclaredMethods()) {
+            Check.due("at most seven parameters: " + m, m.getParameterCount() <= 7 ? 1 : 0, 1);
+        }
+    }
+
+    /** Rule 11: "Methods stay short (some sixty lines)". */
+    private static void lengths() throws IOException {
+        String[] lines = Files.readString(Path.of(SOURCE)).split("\n");
+        Pattern begin = Pattern.compile("^( {4}| {8})(?! |new |return |if |for |while |switch )[\\w<>\\[\\] ]+\\(.*\\) \\{$");
+        int found = 0;
+        for (int i = 0; i < lines.length; i++) {
+            Matcher m = begin.matcher(lines[i]);
+            if (m.matches()) {
+                found++;
+                int end = i;
+                while (end < lines.length && !lines[end].equals(m.group(1) + "}")) {
+                    end++;
+                }
+                Check.due("some sixty lines: " + lines[i].trim(), end - i < 60 ? 1 : 0, 1);
+            }
+        }
+        Check.due("methods were found", found > 60 ? 1 : 0, 1);
     }
 
     private static void words() throws IOException {
