@@ -25,6 +25,7 @@ final class UndoneEdgesTest {
         imagesStayApart();
         imagesLeaveTheRest();
         imagesWithoutABeach();
+        upToThe512thCall();
         Check.finish();
     }
 
@@ -447,5 +448,22 @@ final class UndoneEdgesTest {
         Check.due("no beach: goBack(0)", x.goBack(0), 1);
         Check.due("no beach: the seed", x.seed(0), 4);
         Check.due("no beach: told(0)", x.told(0), 0);
+    }
+
+    /** "An object is used for at most 512 calls after it has been made": the 512th is answered like the first. */
+    private static void upToThe512thCall() {
+        BathingCourt x = Check.court("b0;");
+        int calls = 4;
+        for (int i = 1; i <= 168; i++) {
+            Check.due("hour(1)", x.hour(1), 2 * i - 1);
+            Check.due("drift(1)", x.drift(1), 0);
+            Check.due("told(12)", x.told(12), Math.min(20, 2 * i));
+            calls += 3;
+        }
+        Check.due("keep(0)", x.keep(0), 1);
+        Check.due("hour(60)", x.hour(60), 396);
+        Check.due("goBack(0)", x.goBack(0), 1);
+        Check.due("the 512th call: hour(60)", x.hour(60), 396);
+        Check.due("calls", calls + 4, 512);
     }
 }
