@@ -254,15 +254,15 @@ final class DoneTest {
         BathingCourt x = Check.court(TEXT);
         Check.due("undo() of nothing", x.undo(), Check.NOT);
         String[] before = new String[5];
-        before[0] = Check.seen(x);
+        before[0] = Check.day(x);
         x.bring(0, 0);
-        before[1] = Check.seen(x);
+        before[1] = Check.day(x);
         x.drawTo(0, 3);
-        before[2] = Check.seen(x);
+        before[2] = Check.day(x);
         x.hour(2);
-        before[3] = Check.seen(x);
+        before[3] = Check.day(x);
         x.settle(1);
-        before[4] = Check.seen(x);
+        before[4] = Check.day(x);
         x.drift(5);
         Check.due("a refused call", x.settle(1), Check.NOT);
         int drawn = x.seed(0);
@@ -270,7 +270,7 @@ final class DoneTest {
         Check.due("the seed stays", x.seed(0), 0);
         Check.due("the seed was drawn", drawn != 0 ? 1 : 0, 1);
         for (int i = 4; i >= 0; i--) {
-            Check.due("all behind undo()", Check.seen(x), before[i]);
+            Check.due("the day behind undo()", Check.day(x), before[i]);
             Check.due("undo()", x.undo(), i == 0 ? Check.NOT : i - 1);
         }
     }

@@ -33,6 +33,7 @@ final class ImagesTest {
         Check.due("keep(0)", x.keep(0), 1);
         Check.due("undo() behind keep()", x.undo(), Check.NOT);
         String first = Check.seen(x);
+        String firstDay = Check.day(x);
         x.drift(9);
         x.settle(3);
         Check.due("keep(1)", x.keep(1), 1);
@@ -46,11 +47,11 @@ final class ImagesTest {
         Check.due("all of image 1", Check.seen(x), second);
         x.hour(1);
         Check.due("goBack(0) again", x.goBack(0), 1);
-        Check.due("all of image 0 again", Check.seen(x), first);
+        Check.due("the day of image 0 again", Check.day(x), firstDay);
         Check.due("keep(1) over it", x.keep(1), 1);
         x.hour(1);
         Check.due("goBack(1) again", x.goBack(1), 1);
-        Check.due("all of image 1, now as 0", Check.seen(x), first);
+        Check.due("the day of image 1, now as 0", Check.day(x), firstDay);
     }
 
     private static void whatAnImageDoesNotKeep() {

@@ -463,12 +463,13 @@ final class TextEdgesTest {
         Check.due("beach() of nothing", x.beach(), 0);
         Check.due("told(0) of nothing", x.told(0), 0);
         // A full text that was refused one letter makes room for 240 again.
-        Check.feed(x, " ".repeat(241));
-        x.beach();
+        BathingCourt full = new BathingCourt();
+        Check.feed(full, " ".repeat(241));
+        full.beach();
         for (int i = 1; i <= 240; i++) {
-            Check.due("feed() anew", x.feed(' '), i);
+            Check.due("feed() anew", full.feed(' '), i);
         }
-        Check.due("feed() anew, letter 241", x.feed(' '), Check.FULL);
+        Check.due("feed() anew, letter 241", full.feed(' '), Check.FULL);
     }
 
     /** "The place (from 0 on) of the letter that has the FAULT of the latest beach(); NONE." */
